@@ -351,7 +351,11 @@ public final class ObjectBase {
     }
 
     private static boolean contains(long ids, int id) {
-        return id >= 1 && id <= MAX_OBJECTS && (ids & setOf(id)) != 0;
+        return id >= 1 && id <= MAX_OBJECTS && (ids >>> id & 1) != 0;
+    }
+
+    private static boolean isDigit(char c) {
+        return c >= '0' && c <= '9';
     }
 
     private static boolean isName(int n) {
@@ -410,7 +414,8 @@ public final class ObjectBase {
 
     /** The classes and their fields. */
     private static final class Schema {
-        final int[] parents = new int[MAX_CLASSES + 1];
+        // For each class the classes that it is, one bit each.
+        final int[] above = new int[MAX_CLASSES + 1];
         final int[] owners = new int[MAX_FIELDS];
         final int[] kinds = new int[MAX_FIELDS];
         final int[] targets = new int[MAX_FIELDS];
@@ -423,7 +428,7 @@ public final class ObjectBase {
 
         int addClass(int parent) {
             classCount++;
-            parents[classCount] = parent;
+            above[classCount] = above[parent] | 1 << classCount;
             return classCount;
         }
 
@@ -436,18 +441,11 @@ public final class ObjectBase {
         }
 
         boolean isOf(int c, int other) {
-            int at = c;
-            for (int step = 0; step < MAX_CLASSES && hasClass(at); step++) {
-                if (at == other) {
-                    return true;
-                }
-                at = parents[at];
-            }
-            return false;
+            return (above[c] >> other & 1) != 0;
         }
 
         boolean hasField(int c, int f) {
-            return f >= 0 && f < fieldCount && isOf(c, owners[f]);
+            return f >= 0 && f < fieldCount && (above[c] >> owners[f] & 1) != 0;
         }
 
         boolean hasFieldOfKind(int c, int f, int kind) {
@@ -733,10 +731,6 @@ public final class ObjectBase {
             return true;
         }
 
-        boolean isDigit(int i) {
-            return at(i) >= '0' && at(i) <= '9';
-        }
-
         /** Field number step of the path that begins at start, NO_FIELD behind its last one. */
         int fieldOfPath(int start, int step) {
             for (int i = 0; i <= step; i++) {
@@ -806,16 +800,26 @@ public final class ObjectBase {
             return node;
         }
 
+        /** Puts a node behind the last one of a list, or at its head if last is NONE. */
+        void link(int list, int last, int node) {
+            if (last == NONE) {
+                inner[list] = node;
+            } else {
+                next[last] = node;
+            }
+        }
+
         /** Whether a factor of the condition is a path from x, = and a number. */
         boolean isKeyForm(int factor) {
             if (kinds[factor] != EQUAL || text.at(left[factor]) != 'x') {
                 return false;
             }
-            return text.isDigit(right[factor]) || text.at(right[factor]) == '-';
+            char first = text.at(right[factor]);
+            return first == '-' || isDigit(first);
         }
     }
 
-    /** Reads a text as a question and checks its types. */
+    /** Reads a text as a question and checks its types. Where it finds a fault there is no node: NONE. */
     private static final class Reader {
         private static final int FAULT = -1;
 
@@ -823,6 +827,7 @@ public final class ObjectBase {
         // The class of x, y and z; 0 where the variable does not stand.
         private final int[] standing = new int[VARIABLES];
         private Question question;
+        private Text text;
         private int place;
         // The class to which the path that was read last leads.
         private int ledTo;
@@ -833,100 +838,79 @@ public final class ObjectBase {
 
         boolean readQuestion(Question into) {
             question = into;
+            text = into.text;
             question.clear();
-            question.mode = question.text.at(0);
+            if (!readHead()) {
+                return false;
+            }
+            if (place == text.length) {
+                return true;
+            }
+            if (take() != '?') {
+                return false;
+            }
+            question.root = readList(Question.ANY, 0);
+            return question.root != NONE && place == text.length;
+        }
+
+        private boolean readHead() {
+            question.mode = text.at(0);
             if (question.mode != '*' && question.mode != '#' && question.mode != '+') {
                 return false;
             }
             int classPlace = question.mode == '+' ? endOfPath(1) : 1;
-            question.asked = question.text.at(classPlace) - 'A' + 1;
+            question.asked = text.at(classPlace) - 'A' + 1;
             if (!schema.hasClass(question.asked)) {
                 return false;
             }
-            startWith(question.asked);
+            standing[0] = question.asked;
+            standing[1] = 0;
+            standing[2] = 0;
             place = 1;
             // The path stands before the class from which it leads, so it is read behind it.
             if (question.mode == '+' && readPath() != NUMBER) {
                 return false;
             }
             place = classPlace + 1;
-            return place == question.text.length || readRest();
-        }
-
-        private boolean readRest() {
-            if (take() != '?') {
-                return false;
-            }
-            question.root = readCondition(0);
-            return question.root != FAULT && place == question.text.length;
-        }
-
-        private void startWith(int c) {
-            standing[0] = c;
-            standing[1] = 0;
-            standing[2] = 0;
+            return true;
         }
 
         private int endOfPath(int start) {
             int end = start + 1;
-            for (int i = 0; i < MAX_TEXT && question.text.at(end) == '.'; i++) {
+            for (int i = 0; i < MAX_TEXT && text.at(end) == '.'; i++) {
                 end += 2;
             }
             return end;
         }
 
         private char peek() {
-            return question.text.at(place);
+            return place < text.length ? text.chars[place] : 0;
         }
 
         private char take() {
-            char c = peek();
+            char c = place < text.length ? text.chars[place] : 0;
             place++;
             return c;
         }
 
-        private int readCondition(int depth) {
-            int any = question.addNode(Question.ANY, NONE);
+        /** ANY: a condition, a list of parts; ALL: a part, a list of factors. */
+        private int readList(int kind, int depth) {
+            int list = question.addNode(kind, NONE);
+            char between = kind == Question.ANY ? '|' : '&';
             int last = NONE;
-            for (int i = 0; i < MAX_TEXT && any != NONE; i++) {
-                int part = readPart(depth);
-                if (part == FAULT) {
-                    return FAULT;
+            for (int i = 0; i < MAX_TEXT && list != NONE; i++) {
+                int node = kind == Question.ANY ? readList(Question.ALL, depth) : readFactor(depth);
+                if (node == NONE) {
+                    return NONE;
                 }
-                link(any, last, part);
-                last = part;
-                if (peek() != '|') {
-                    return any;
+                question.link(list, last, node);
+                last = node;
+                if (peek() != between) {
+                    return list;
                 }
                 place++;
             }
-            return FAULT;
-        }
-
-        private int readPart(int depth) {
-            int all = question.addNode(Question.ALL, NONE);
-            int last = NONE;
-            for (int i = 0; i < MAX_TEXT && all != NONE; i++) {
-                int factor = readFactor(depth);
-                if (factor == FAULT) {
-                    return FAULT;
-                }
-                link(all, last, factor);
-                last = factor;
-                if (peek() != '&') {
-                    return all;
-                }
-                place++;
-            }
-            return FAULT;
-        }
-
-        private void link(int outer, int last, int node) {
-            if (last == NONE) {
-                question.inner[outer] = node;
-            } else {
-                question.next[last] = node;
-            }
+            return NONE;
         }
 
         private int readFactor(int depth) {
@@ -935,7 +919,7 @@ public final class ObjectBase {
                 return readComparison();
             }
             if (depth >= MAX_NEST) {
-                return FAULT;
+                return NONE;
             }
             place++;
             if (first == '!') {
@@ -946,47 +930,43 @@ public final class ObjectBase {
 
         private int readNot(int depth) {
             int factor = readFactor(depth);
-            return factor == FAULT ? FAULT : question.addNode(Question.NOT, factor);
+            return factor == NONE ? NONE : question.addNode(Question.NOT, factor);
         }
 
         private int readBrackets(int depth) {
-            int condition = readCondition(depth);
-            return take() == ')' ? condition : FAULT;
+            int condition = readList(Question.ANY, depth);
+            return take() == ')' ? condition : NONE;
         }
 
         private int readSome(int depth) {
             int variablePlace = place;
             int variable = take() - 'x';
             if (variable < 1 || variable >= VARIABLES || standing[variable] != 0) {
-                return FAULT;
+                return NONE;
             }
             int pathPlace = place;
-            if (readPath() != SET) {
-                return FAULT;
+            if (readPath() != SET || take() != ':') {
+                return NONE;
             }
-            int member = ledTo;
-            if (take() != ':') {
-                return FAULT;
-            }
-            standing[variable] = member;
+            standing[variable] = ledTo;
             int factor = readFactor(depth);
             standing[variable] = 0;
-            return factor == FAULT ? FAULT : question.addPair(Question.SOME, factor, variablePlace, pathPlace);
+            return factor == NONE ? NONE : question.addPair(Question.SOME, factor, variablePlace, pathPlace);
         }
 
         private int readComparison() {
             int leftPlace = place;
-            int leftType = readOperand();
-            if (leftType != NUMBER && leftType != REFERENCE) {
-                return FAULT;
+            int type = readOperand();
+            if (type != NUMBER && type != REFERENCE) {
+                return NONE;
             }
             int kind = kindOfSign(take());
-            if (kind == FAULT || (kind != Question.EQUAL && leftType != NUMBER)) {
-                return FAULT;
+            if (kind == FAULT || (kind != Question.EQUAL && type != NUMBER)) {
+                return NONE;
             }
             int rightPlace = place;
-            if (readOperand() != leftType) {
-                return FAULT;
+            if (readOperand() != type) {
+                return NONE;
             }
             return question.addPair(kind, NONE, leftPlace, rightPlace);
         }
@@ -1007,7 +987,7 @@ public final class ObjectBase {
                 place++;
                 return REFERENCE;
             }
-            if (peek() == '-' || question.text.isDigit(place)) {
+            if (peek() == '-' || isDigit(peek())) {
                 return readNumber();
             }
             return readPath();
@@ -1021,7 +1001,7 @@ public final class ObjectBase {
             }
             long value = 0;
             int digits = 0;
-            while (digits <= MAX_DIGITS && question.text.isDigit(place)) {
+            while (digits <= MAX_DIGITS && isDigit(peek())) {
                 value = value * 10 + (take() - '0');
                 digits++;
             }

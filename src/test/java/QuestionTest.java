@@ -147,7 +147,7 @@ public final class QuestionTest {
             "*A?Ex.c:n=n", "*A?Eyx.c:y", "*A?Eyx.c:y.d=1", "*A?E", "*A?Ey", "*A?Eyx.c;n=n", "*A?Eyx.g:n=n", "*C?Eyx.g.c:n=n",
             "*A?x.a=2147483648", "*A?x.a=-2147483649", "*A?x.a=00000000005", "*A?x.a=-00000000005", "*A?x.a=-", "*A?x.a=--5",
             "*A?x.a=+5", "*A?x.a=5-", "*A?x.a=9999999999", "*A?x.a=5.", "*A?x.a=1e3", "*A?-x.a=1", "*A?x.a<=5", "*A?x.a=>5",
-            "*A?x.a!5", "*A?n.b=n", "*A?5.a=1", "*A?N=n", "*A?x=n?n=n", "#A,", "*A?!(n=n", "*A?(n=n))", "*A?)n=n(",
+            "*A?x.a!5", "*A?n.b=n", "*A?{=n", "*A?{.a=1", "*A?E{x.c:n=n", "+{.aA", "*A?x.~=1", "*A?x.`=1", "*A?5.a=1", "*A?N=n", "*A?x=n?n=n", "#A,", "*A?!(n=n", "*A?(n=n))", "*A?)n=n(",
         };
         for (String text : texts) {
             DUE.is("prepare() of " + text, Texts.prepare(schema(), text), ObjectBase.BAD);
