@@ -90,6 +90,9 @@ public final class QuestionTest {
         DUE.is("but it reads no more", x.prepare(), ObjectBase.BAD);
         DUE.yes("empty", x.draft(0));
         DUE.is("an empty draft", x.prepare(), ObjectBase.BAD);
+        Texts.draft(x, "#A?x.a=5");
+        DUE.is("a shorter draft behind a longer one", Texts.prepare(x, "#"), ObjectBase.BAD);
+        DUE.is("and one that ends in a path", Texts.prepare(x, "+x.a"), ObjectBase.BAD);
         draftOfSixty(x);
     }
 
@@ -119,7 +122,7 @@ public final class QuestionTest {
         String[] texts = {
             "*A", "#B", "*C", "+x.aA", "+x.b.aA", "+x.e.fB", "+x.e.h.b.b.aB", "+x.aB", "+x.dB?x.a=1",
             "*A?n=n", "*A?n=x", "*A?x=n", "*A?x=x", "*A?x.b=x", "*B?x.e=x.b", "*B?x=x.e.h", "*A?1=1", "*A?1<2",
-            "*A?x.a=-0", "*A?x.a=0000000005", "*A?x.a>-2147483648", "*A?x.a<2147483647", "*A?-1=x.a", "*A?5>x.a",
+            "*A?x.a=-0", "*A?x.a=987654321", "*A?x.a=0000000005", "*A?x.a>-2147483648", "*A?x.a<2147483647", "*A?-1=x.a", "*A?5>x.a",
             "*A?x.a=x.b.a", "*B?x.d<x.e.f", "*A?!x.a=5", "*A?!!x.a=5", "*A?(x.a=5)", "*A?((n=n)|(x=n))&n=n",
             "*A?x.a=1|x.a=2|x.a=3", "*A?x.a=1&x.a=2|x.a=3&x.a=4", "*A?Eyx.c:y.a=5", "*A?Ezx.c:z=n",
             "*A?Eyx.c:Ezy.c:z=y", "*A?Ezx.c:Eyz.c:(z=y&x=y)", "*A?Eyx.c:y=x&Eyx.c:y.b=n", "*A?Eyx.b.c:n=n",
