@@ -1,6 +1,14 @@
+import java.nio.file.Files;
+import java.nio.file.Path;
+import java.io.IOException;
+
 /** Counts the answers that are not as due. */
 final class Due {
+    private static final Path DOCUMENT = Path.of("../shared/DOC.md");
+
     private final String title;
+    private String document = "";
+    private String sentence = "";
     private int asked;
     private int wrong;
 
@@ -8,11 +16,20 @@ final class Due {
         this.title = title;
     }
 
+    /** The words of the document for which the next answers are due; they must stand in it. */
+    void sentence(String words) {
+        sentence = " (" + words + ")";
+        if (document.isEmpty()) {
+            document = inOneLine(readDocument());
+        }
+        yes("the document has this sentence", document.contains(inOneLine(words)));
+    }
+
     void is(String call, long got, long want) {
         asked++;
         if (got != want) {
             wrong++;
-            System.out.println(title + ": " + call + " answered " + got + ", due is " + want);
+            System.out.println(title + sentence + ": " + call + " answered " + got + ", due is " + want);
         }
     }
 
@@ -33,5 +50,17 @@ final class Due {
         if (wrong != 0 || asked == 0) {
             System.exit(1);
         }
+    }
+
+    private static String readDocument() {
+        try {
+            return Files.readString(DOCUMENT);
+        } catch (IOException e) {
+            throw new IllegalStateException("no document", e);
+        }
+    }
+
+    private static String inOneLine(String text) {
+        return text.replaceAll("\\s+", " ");
     }
 }
