@@ -23,6 +23,7 @@ public final class AnswerEdgesTest {
         largeSets();
         orAndNot();
         planOfOneToThreeFields();
+        plansOfLikePaths();
         plansThatAreNone();
         firstFactorCounts();
         classesOfPlans();
@@ -431,6 +432,53 @@ public final class AnswerEdgesTest {
         plan("*A?x.a=5", OVER_B_A, 4, 3);
         plan("*A?x.a=5", OVER_B_B_A, 4, 3);
         plan("*A?x.b.b.b.a=5", OVER_B_B_A, 4, 1);
+    }
+
+    /** a and b numbers, c and d references to the class: 1.c is 2, 1.d is 3, and 2 and 3 refer to 1. */
+    private static ObjectBase withLikeFields() {
+        ObjectBase x = Bases.withClasses(1);
+        x.field(1, 0, 0);
+        x.field(1, 0, 0);
+        x.field(1, 1, 1);
+        x.field(1, 1, 1);
+        x.begin();
+        Bases.makeMany(x, 3);
+        for (int id = 1; id <= 3; id++) {
+            x.put(id, 0, 10 + id);
+            x.put(id, 1, 10 + id);
+            x.point(id, 2, id == 1 ? 2 : 1);
+            x.point(id, 3, id == 1 ? 3 : 1);
+        }
+        x.name(0, 1);
+        x.commit();
+        return x;
+    }
+
+    private static void plansOfLikePaths() {
+        DUE.sentence("of which a factor is that path, =, and a number");
+        int[][] paths = {
+            {0, -1, -1}, {1, -1, -1}, {2, 0, -1}, {2, 1, -1}, {3, 0, -1}, {3, 1, -1},
+            {2, 2, 0}, {2, 2, 1}, {2, 3, 0}, {2, 3, 1}, {3, 2, 0}, {3, 2, 1}, {3, 3, 0}, {3, 3, 1},
+        };
+        for (int[] index : paths) {
+            for (int[] path : paths) {
+                StringBuilder text = new StringBuilder("*A?x");
+                for (int f : path) {
+                    text.append(f < 0 ? "" : "." + (char) ('a' + f));
+                }
+                ObjectBase x = withLikeFields();
+                x.index(1, index[0], index[1], index[2]);
+                String call = text + "=10 with an index over " + index[0] + ", " + index[1] + ", " + index[2];
+                DUE.is("ask of " + call, x.ask(Texts.prepare(x, text + "=10")), 0);
+                DUE.is("look(8) of " + call, x.look(8), path == index ? 0 : 3);
+            }
+        }
+        plan("#A?x.a=7", OVER_A, 1, 1);
+        ObjectBase x = base();
+        x.index(1, 0, -1, -1);
+        DUE.is("ask of a sum", x.ask(Texts.prepare(x, "+x.b.aA?x.a=7")), 1);
+        DUE.is("look(8) of a sum", x.look(8), 1);
+        DUE.is("sum()", x.sum(), 5);
     }
 
     private static void plansThatAreNone() {

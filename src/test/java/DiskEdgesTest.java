@@ -73,6 +73,21 @@ public final class DiskEdgesTest {
         DUE.is("get(3, 6)", x.get(3, 6), 1);
         DUE.is("named(2)", x.named(2), 3);
         DUE.is("collect() again", x.collect(), 0);
+        ObjectBase last = Bases.begun(Bases.schema());
+        Bases.makeMany(last, 60);
+        last.abort();
+        last.begin();
+        Bases.makeMany(last, 2);
+        last.name(0, 61);
+        last.commit();
+        DUE.is("classOf(62)", last.classOf(62), 1);
+        DUE.is("collect() of the last ID", last.collect(), 1);
+        DUE.is("classOf(62)", last.classOf(62), 0);
+        DUE.is("look(0)", last.look(0), 1);
+        Bases.begun(last).name(0, 0);
+        last.commit();
+        DUE.is("collect() of the last but one", last.collect(), 1);
+        DUE.is("classOf(61)", last.classOf(61), 0);
     }
 
     private static void roomBehindACollection() {
@@ -139,6 +154,13 @@ public final class DiskEdgesTest {
             DUE.is("look(0) then" + with, x.look(0), 3);
             DUE.is("look(3) then" + with, x.look(3), 1);
         }
+        ObjectBase other = Bases.small();
+        other.collect();
+        other.arm(3);
+        DUE.is("collect() from the other half", other.collect(), DOWN);
+        other.recover();
+        DUE.is("look(3)", other.look(3), 1);
+        DUE.is("look(0)", other.look(0), 3);
         ObjectBase x = Bases.withObjects(16, 16);
         x.arm(16);
         DUE.is("collect() without its last block", x.collect(), DOWN);

@@ -61,8 +61,11 @@ public final class ModelTest {
     }
 
     private void same(String call, long got, long want) {
-        calls.add(call + " " + want);
-        DUE.is(call, got, want);
+        // A step may take several calls, and what they answer behind the last one is free.
+        if (calls.size() < CALLS) {
+            calls.add(call + " " + want);
+            DUE.is(call, got, want);
+        }
     }
 
     private void same(String call, boolean got, boolean want) {

@@ -15,6 +15,7 @@ public final class ShownEdgesTest {
         classOfEdges();
         reachedEdges();
         namesReach();
+        allFieldsReach();
         chainsReach();
         ringsReach();
         getEdges();
@@ -102,6 +103,26 @@ public final class ShownEdgesTest {
         x.name(1, 1);
         x.name(0, 0);
         DUE.yes("another name names it still", x.reached(1));
+    }
+
+    private static void allFieldsReach() {
+        DUE.sentence("or a reference or a set of one that is reached does");
+        for (int kind = 0; kind <= 2; kind++) {
+            ObjectBase x = Bases.withClasses(1);
+            for (int f = 0; f < 8; f++) {
+                x.field(1, kind, 1);
+            }
+            x.begin();
+            Bases.makeMany(x, 9);
+            x.name(1, 9);
+            for (int f = 0; f < 8; f++) {
+                boolean told = kind == 0 ? x.put(9, f, f + 1) : kind == 1 ? x.point(9, f, f + 1) : x.join(9, f, f + 1, true);
+                DUE.yes("field " + f + " of kind " + kind, told);
+                DUE.is("reached(" + (f + 1) + ") by field " + f, x.reached(f + 1) ? 1 : 0, kind == 0 ? 0 : 1);
+            }
+            x.commit();
+            DUE.is("look(1) by fields of kind " + kind, x.look(1), kind == 0 ? 1 : 9);
+        }
     }
 
     private static void chainsReach() {

@@ -24,6 +24,7 @@ public final class TextEdgesTest {
         twelveQuestions();
         theDraftStays();
         prepareRefused();
+        nothingIsLeftOfTheRefused();
         modesAndClasses();
         classesThatAreThere();
         fieldsThatAreThere();
@@ -256,6 +257,27 @@ public final class TextEdgesTest {
         for (String text : wrong) {
             Twins.refused(DUE, text, () -> withQuestions(2, text), x -> x.prepare(), BAD);
             Twins.refused(DUE, text + " in a batch", () -> Bases.begun(withQuestions(2, text)), x -> x.prepare(), BAD);
+        }
+    }
+
+    /** Of what was read in vain nothing is left for the next one, whatever stood at its places. */
+    private static void nothingIsLeftOfTheRefused() {
+        DUE.sentence("A call that is refused changes nothing, unless it says so.");
+        String[][] pairs = {
+            {"*A?x.b=5", "*A?x.b=n"}, {"*A?5=n", "*A?n=n"}, {"*A?Eyx.c:y=5", "*A?y=x"}, {"*A?Eyx.c:Ezx.c:z=5", "*A?Ezx.c:z=n"},
+            {"+x.aA?", "*A"}, {"*B?n=n|", "*A"}, {"*A?x=n&", "*A"}, {"*A?x=n)", "*A?n=n"}, {"*A?!x=x|", "*A?x=x"},
+            {"*A?x.a=99|(", "*A?x.a=0|x=n"}, {"*A?" + "!".repeat(13) + "n=n", "*A?" + "!".repeat(12) + "n=n"},
+        };
+        for (String[] pair : pairs) {
+            ObjectBase x = Bases.withObjects(3, 3);
+            DUE.is("prepare() of " + pair[0], Texts.prepare(x, pair[0]), BAD);
+            int q = Texts.prepare(x, pair[1]);
+            ObjectBase y = Bases.withObjects(3, 3);
+            DUE.is("prepare() of " + pair[1] + " behind " + pair[0], q, Texts.prepare(y, pair[1]));
+            DUE.is("ask of " + pair[1] + " behind " + pair[0], x.ask(0), y.ask(0));
+            DUE.is("sum() of it", x.sum(), y.sum());
+            DUE.is("hit(0) of it", x.hit(0), y.hit(0));
+            DUE.is("look(8) of it", x.look(8), y.look(8));
         }
     }
 
